@@ -148,12 +148,14 @@ public final class FlowedLine {
             }
         }
 
+        /** The oldest item, taken out; 0 when there is none. */
         int removeOldest() {
-            int item = oldest();
-            if (size > 0) {
-                first = (first + 1) & MASK;
-                size--;
+            if (size == 0) {
+                return 0;
             }
+            int item = places[first & MASK];
+            first = (first + 1) & MASK;
+            size--;
             return item;
         }
 
@@ -295,10 +297,18 @@ public final class FlowedLine {
             int b = v & 255;
             switch (a) {
                 case 0:
-                    storeLowOrData(b);
+                    if (usesOtherBank()) {
+                        low = b;
+                    } else {
+                        storeData(b);
+                    }
                     break;
                 case 1:
-                    storeHighOrEnabled(b);
+                    if (usesOtherBank()) {
+                        high = b;
+                    } else {
+                        storeEnabled(b);
+                    }
                     break;
                 case 2:
                     storeQueueing(b);
@@ -322,7 +332,8 @@ public final class FlowedLine {
         }
 
         int span() {
-            return Math.max(1, low + 256 * high);
+            int ticks = low + 256 * high;
+            return ticks == 0 ? 1 : ticks;
         }
 
         int findCause() {
@@ -371,21 +382,13 @@ public final class FlowedLine {
             return status;
         }
 
-        void storeLowOrData(int b) {
-            if (usesOtherBank()) {
-                low = b;
-                return;
-            }
+        void storeData(int b) {
             vacated = false;
             out.append(b);
             moveIfPossible();
         }
 
-        void storeHighOrEnabled(int b) {
-            if (usesOtherBank()) {
-                high = b;
-                return;
-            }
+        void storeEnabled(int b) {
             boolean roomIsNew = (enabled & ROOM) == 0 && (b & ROOM) != 0;
             enabled = b & 15;
             if (roomIsNew && out.size == 0) {

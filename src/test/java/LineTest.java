@@ -291,5 +291,7 @@ public final class LineTest {
         due("span 1", y.left(), 1);
         y.tick(1);
         due("idle again", y.left(), 0);
+        y.tick(3);
+        due("idle stays idle", y.left(), 0);
     }
 }

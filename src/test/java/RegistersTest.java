@@ -9,6 +9,7 @@ public final class RegistersTest {
         promise2CauseRegister();
         promise2StatusOfFaults();
         promise2StatusOfOneFaultEach();
+        promise2StatusAtTheEdgesOfACharacter();
         promise2StatusOfOut();
         promise2ModemRegister();
         promise3NoSuchRegister();
@@ -176,6 +177,26 @@ public final class RegistersTest {
             x.wire(255, faults);
             due("status with faults " + faults, x.read(5), 97 + 4 * faults);
         }
+    }
+
+    private static void promise2StatusAtTheEdgesOfACharacter() {
+        FlowedLine x = new FlowedLine();
+        x.write(2, 1);
+        x.write(1, 4);
+        x.wire(255, 0);
+        due("255 is no fault", x.cause(), 1);
+        due("255 is no fault of some", x.read(5), 97);
+        x.wire(0, 1);
+        due("0 with PARITY, of some", x.read(5), 97 + 128);
+        x.read(0);
+        due("0 with PARITY", x.cause(), 6);
+        x.read(0);
+        due("what was taken out does not count", x.read(5), 96);
+        x.wire(1, 0);
+        x.wire(2, 7);
+        x.write(2, 3);
+        x.wire(3, 0);
+        due("what was emptied does not count", x.read(5), 97);
     }
 
     private static void promise2StatusOfOut() {
@@ -467,6 +488,13 @@ public final class RegistersTest {
             x.write(1, enabled);
             due("all hold, enabled " + enabled, x.cause(), causes[enabled]);
         }
+        for (int enabled = 0; enabled < 16; enabled++) {
+            FlowedLine x = new FlowedLine();
+            x.write(1, enabled);
+            due("only VACATED, enabled " + enabled, x.read(2), (enabled & 2) != 0 ? 2 : 1);
+            x.lines(2);
+            due("only CHANGES, enabled " + enabled, x.cause(), (enabled & 8) != 0 ? 0 : 1);
+        }
         FlowedLine x = new FlowedLine();
         x.write(1, 4);
         x.wire(1, 0);
@@ -523,6 +551,7 @@ public final class RegistersTest {
         x.tick(1);
         due("4 after reading", x.cause(), 12);
         x.write(2, 131);
+        due("IN was emptied", x.cause(), 1);
         x.wire(3, 0);
         x.tick(3);
         due("3 after emptying", x.cause(), 1);
