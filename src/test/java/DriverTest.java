@@ -37,43 +37,8 @@ public final class DriverTest {
         Check.due(call, got, want);
     }
 
-    private static FlowedLine started() {
-        FlowedLine x = new FlowedLine();
-        x.start();
-        return x;
-    }
-
-    /** Brings n characters, from c on, into BACK, in portions that IN has places for. */
-    private static void receive(FlowedLine x, int c, int n) {
-        for (int k = 0; k < n; k++) {
-            x.wire(c + k, 0);
-            if (k % 4 == 3 || k == n - 1) {
-                x.tick(4);
-                x.service();
-            }
-        }
-    }
-
-    /** A driver whose urgent character has to wait: OUT has one, and DATA alone is enabled. */
-    private static FlowedLine outKeptBusy() {
-        FlowedLine x = new FlowedLine();
-        x.write(2, 1);
-        x.write(1, 1);
-        x.write(0, 1);
-        x.write(0, 2);
-        return x;
-    }
-
-    /** Brings n characters, from c on, into BACK in one round, with a LEVEL of 1. */
-    private static void receiveAtOnce(FlowedLine x, int c, int n) {
-        for (int k = 0; k < n; k++) {
-            x.wire(c + k, 0);
-        }
-        x.service();
-    }
-
     private static void promise10WritesTheRegisters() {
-        FlowedLine x = started();
+        FlowedLine x = Given.started();
         due("FORMAT", x.read(3), 3);
         due("ENABLED", x.read(1), 7);
         due("QUEUED, VACATED", x.read(2), 194);
@@ -87,8 +52,8 @@ public final class DriverTest {
     }
 
     private static void promise10ForgetsButKeepsLost() {
-        FlowedLine x = started();
-        receive(x, 100, 26);
+        FlowedLine x = Given.started();
+        Given.received(x, 100, 26);
         x.wire(19, 0);
         x.tick(4);
         x.service();
@@ -112,7 +77,7 @@ public final class DriverTest {
         x.service();
         x.tick(10);
         due("nothing urgent is sent", x.total(), before);
-        receive(x, 100, 18);
+        Given.received(x, 100, 18);
         x.start();
         due("not asked any more", x.flow(), 0);
     }
@@ -145,7 +110,7 @@ public final class DriverTest {
     }
 
     private static void promise11Accept() {
-        FlowedLine x = started();
+        FlowedLine x = Given.started();
         for (int k = 0; k < 24; k++) {
             due("accept " + k, x.accept(k + 256), true);
             due("count", x.count(1), k + 1);
@@ -194,15 +159,15 @@ public final class DriverTest {
     }
 
     private static void promise12TakesTheOldest() {
-        FlowedLine x = started();
+        FlowedLine x = Given.started();
         due("empty", x.take(), -1);
-        receive(x, 200, 8);
+        Given.received(x, 200, 8);
         for (int k = 0; k < 8; k++) {
             due("take " + k, x.take(), 200 + k);
         }
         due("empty again", x.take(), -1);
         due("nothing urgent, not asked", x.flow(), 0);
-        receive(x, 250, 6);
+        Given.received(x, 250, 6);
         int[] want = {250, 251, 252, 253, 254, 255};
         for (int c : want) {
             due("take", x.take(), c);
@@ -210,8 +175,8 @@ public final class DriverTest {
     }
 
     private static void promise12Releases() {
-        FlowedLine x = started();
-        receive(x, 100, 18);
+        FlowedLine x = Given.started();
+        Given.received(x, 100, 18);
         due("asked", x.flow() & 2, 2);
         x.tick(5);
         x.service();
@@ -237,21 +202,21 @@ public final class DriverTest {
         x.tick(1);
         due("17 was sent", x.sent(0), 17);
         due("flow", x.flow(), 0);
-        receive(x, 100, 13);
+        Given.received(x, 100, 13);
         due("asked again", x.flow() & 2, 2);
     }
 
     private static void promise12InPlaceOfWhatWas() {
-        FlowedLine x = outKeptBusy();
-        receiveAtOnce(x, 100, 16);
+        FlowedLine x = Given.outKeptBusy();
+        Given.receivedAtOnce(x, 100, 16);
         due("16 there", x.flow(), 0);
-        receiveAtOnce(x, 116, 2);
+        Given.receivedAtOnce(x, 116, 2);
         due("asked, 19 waits", x.flow(), 10);
         for (int k = 0; k < 12; k++) {
             x.take();
         }
         due("17 in place of 19", x.flow(), 4);
-        receiveAtOnce(x, 118, 12);
+        Given.receivedAtOnce(x, 118, 12);
         due("19 in place of 17", x.flow(), 10);
     }
 
@@ -306,7 +271,7 @@ public final class DriverTest {
     }
 
     private static void promise13SixteenWritten() {
-        FlowedLine x = started();
+        FlowedLine x = Given.started();
         for (int k = 0; k < 20; k++) {
             x.accept(k);
         }
@@ -322,8 +287,8 @@ public final class DriverTest {
     }
 
     private static void promise13UrgentCountsAmongThem() {
-        FlowedLine x = started();
-        receive(x, 100, 17);
+        FlowedLine x = Given.started();
+        Given.received(x, 100, 17);
         x.tick(10);
         for (int k = 0; k < 24; k++) {
             x.accept(200 + k);
@@ -338,8 +303,8 @@ public final class DriverTest {
         int total = x.total();
         due("19 and 24 of FORTH", total, 25);
         due("19 went first", x.sent(24), 19);
-        FlowedLine y = started();
-        receive(y, 100, 16);
+        FlowedLine y = Given.started();
+        Given.received(y, 100, 16);
         for (int k = 0; k < 20; k++) {
             y.accept(k);
         }
@@ -352,9 +317,9 @@ public final class DriverTest {
     }
 
     private static void promise13UrgentGoesWhenHeld() {
-        FlowedLine x = started();
+        FlowedLine x = Given.started();
         x.wire(19, 0);
-        receive(x, 100, 18);
+        Given.received(x, 100, 18);
         x.tick(10);
         x.service();
         x.accept(55);
@@ -367,7 +332,7 @@ public final class DriverTest {
     }
 
     private static void promise13NothingToWrite() {
-        FlowedLine x = started();
+        FlowedLine x = Given.started();
         due("one round", x.service(), 1);
         due("ROOM is disabled", x.read(1), 5);
         x.accept(1);
@@ -434,7 +399,7 @@ public final class DriverTest {
     }
 
     private static void promise13HoldAndGo() {
-        FlowedLine x = started();
+        FlowedLine x = Given.started();
         x.service();
         x.wire(19, 0);
         x.tick(4);
@@ -459,8 +424,8 @@ public final class DriverTest {
     }
 
     private static void promise14Count() {
-        FlowedLine x = started();
-        receive(x, 100, 5);
+        FlowedLine x = Given.started();
+        Given.received(x, 100, 5);
         x.wire(1, 0);
         x.wire(2, 0);
         for (int k = 0; k < 4; k++) {
@@ -478,22 +443,22 @@ public final class DriverTest {
     }
 
     private static void promise15Flow() {
-        FlowedLine x = outKeptBusy();
-        receiveAtOnce(x, 30, 16);
+        FlowedLine x = Given.outKeptBusy();
+        Given.receivedAtOnce(x, 30, 16);
         due("16 there", x.flow(), 0);
-        receiveAtOnce(x, 19, 1);
-        receiveAtOnce(x, 46, 1);
+        Given.receivedAtOnce(x, 19, 1);
+        Given.receivedAtOnce(x, 46, 1);
         due("held, 17 there", x.flow(), 1);
-        receiveAtOnce(x, 47, 1);
+        Given.receivedAtOnce(x, 47, 1);
         due("held, asked, 19 urgent", x.flow(), 11);
-        receiveAtOnce(x, 17, 1);
+        Given.receivedAtOnce(x, 17, 1);
         due("asked, 19 urgent", x.flow(), 10);
-        receiveAtOnce(x, 19, 1);
+        Given.receivedAtOnce(x, 19, 1);
         while (x.count(0) > 6) {
             x.take();
         }
         due("held, 17 urgent", x.flow(), 5);
-        receiveAtOnce(x, 17, 1);
+        Given.receivedAtOnce(x, 17, 1);
         due("17 urgent", x.flow(), 4);
         x.tick(2);
         x.service();
@@ -501,11 +466,11 @@ public final class DriverTest {
     }
 
     private static void promise16BackIsFull() {
-        FlowedLine x = started();
-        receive(x, 100, 24);
+        FlowedLine x = Given.started();
+        Given.received(x, 100, 24);
         due("full", x.count(0), 24);
         due("none lost", x.lost(), 0);
-        receive(x, 150, 3);
+        Given.received(x, 150, 3);
         due("three lost", x.lost(), 3);
         x.wire(19, 0);
         x.wire(17, 0);
@@ -513,7 +478,7 @@ public final class DriverTest {
         x.service();
         due("19 and 17 need no place", x.lost(), 3);
         due("the oldest stays", x.take(), 100);
-        receive(x, 160, 1);
+        Given.received(x, 160, 1);
         due("a place again", x.lost(), 3);
         for (int k = 1; k < 24; k++) {
             due("kept", x.take(), 100 + k);
@@ -522,7 +487,7 @@ public final class DriverTest {
     }
 
     private static void promise16Overrun() {
-        FlowedLine x = started();
+        FlowedLine x = Given.started();
         for (int k = 0; k < 20; k++) {
             x.wire(30 + k, 0);
         }

@@ -28,13 +28,6 @@ public final class LineTest {
         Check.due(call, got, want);
     }
 
-    private static void setSpan(FlowedLine x, int low, int high, int format) {
-        x.write(3, 128);
-        x.write(0, low);
-        x.write(1, high);
-        x.write(3, format);
-    }
-
     private static void promise4Faults() {
         FlowedLine x = new FlowedLine();
         int[] wrong = {-1, 8, 256, Integer.MIN_VALUE, Integer.MAX_VALUE};
@@ -93,7 +86,7 @@ public final class LineTest {
 
     private static void promise5WrongNumbers() {
         FlowedLine x = new FlowedLine();
-        setSpan(x, 200, 0, 3);
+        Given.span(x, 200, 0, 3);
         x.write(0, 7);
         int[] wrong = {0, -1, 101, Integer.MIN_VALUE, Integer.MAX_VALUE};
         for (int n : wrong) {
@@ -109,7 +102,7 @@ public final class LineTest {
     private static void promise5LeavesAfterTheSpan() {
         FlowedLine x = new FlowedLine();
         x.write(2, 1);
-        setSpan(x, 3, 0, 3);
+        Given.span(x, 3, 0, 3);
         x.write(0, 1);
         x.write(0, 2);
         x.write(0, 3);
@@ -123,19 +116,19 @@ public final class LineTest {
 
     private static void promise5SpanIsThatOfTheMove() {
         FlowedLine x = new FlowedLine();
-        setSpan(x, 5, 0, 3);
+        Given.span(x, 5, 0, 3);
         x.write(0, 1);
         x.write(0, 2);
-        setSpan(x, 2, 0, 3);
+        Given.span(x, 2, 0, 3);
         due("the first goes on", x.left(), 5);
         due("four ticks", x.tick(4), 0);
         due("the fifth", x.tick(1), 1);
         due("the new span", x.left(), 2);
-        setSpan(x, 0, 0, 3);
+        Given.span(x, 0, 0, 3);
         x.tick(2);
         x.write(0, 3);
         due("a span of at least 1", x.left(), 1);
-        setSpan(x, 0, 1, 3);
+        Given.span(x, 0, 1, 3);
         x.tick(1);
         x.write(0, 3);
         due("HIGH counts 256", x.left(), 256);
@@ -276,7 +269,7 @@ public final class LineTest {
 
     private static void promise17Left() {
         FlowedLine x = new FlowedLine();
-        setSpan(x, 255, 255, 3);
+        Given.span(x, 255, 255, 3);
         due("idle", x.left(), 0);
         x.write(0, 1);
         due("the widest span", x.left(), 65535);
